@@ -23,6 +23,9 @@ public final class FormTest {
         check.due("the same bytes elsewhere", 3, x.elements(1));
         Draft.gray(1).parseInto(x);
         check.due("one entry", 1, x.elements(2));
+        new Draft(2, 1, 0).entry(3, 1, 0).entry(6, Draft.still()).entry(1, 1, 0).shared(9, 6).shared(10, 6)
+            .shared(2, 1).shared(4, 3).entry(12, Draft.words(5, 0, 1, 2, 3)).parseInto(x);
+        check.due("four elements of eight entries", 4, x.elements(3));
     }
 
     private static void same() {
@@ -122,6 +125,9 @@ public final class FormTest {
         Draft.load(x, loose);
         check.due("parse of 256 bytes, most of no use", 1, x.parse());
         check.due("write of them", 16, x.write(1));
+        check.due("their SIZE", 16, 256 * x.at(0) + x.at(1));
+        new Draft(2, 1, 0).entry(1, Draft.samples(0, 0)).entry(2, Draft.power(2, 0, 0)).parseInto(x);
+        check.due("data that differ in their type alone", 32, x.write(2));
     }
 
     private static void missing() {

@@ -71,11 +71,13 @@ public final class LinkTest {
         Draft nothing = new Draft(2, 3, 0).colours(Draft.samples()).entry(5, Draft.unit());
         Draft oneBent = new Draft(2, 3, 0).entry(2, 1, 0).shared(3, 2).entry(4, Draft.power(1, 0, 0)).entry(5, Draft.unit());
         Draft almostUnit = new Draft(2, 3, 0).colours(1, 0).entry(5, Draft.matrix(4096, 0, 0, 0, 4096, 0, 0, 1, 4096));
-        ColourLinker x = with(nothing, oneBent, almostUnit, Draft.gray(0));
+        Draft notFirst = new Draft(2, 3, 0).colours(1, 0).entry(5, Draft.matrix(4095, 0, 0, 0, 4096, 0, 0, 0, 4096));
+        ColourLinker x = with(nothing, oneBent, almostUnit, Draft.gray(0), notFirst);
         dueKinds("nothing left", x, x.link(0, 0, 0, false));
         dueKinds("one curve is no samples", x, x.link(1, 1, 0, false), 1, 11);
         dueKinds("almost the unit", x, x.link(2, 2, 0, false), 2, 10);
         dueKinds("straight gray", x, x.link(3, 3, 0, false), 4, 9);
+        dueKinds("the unit but for m(0,0)", x, x.link(4, 4, 0, false), 2, 10);
         check.due("no pieces", 0, x.pieces(0));
     }
 
@@ -205,9 +207,10 @@ public final class LinkTest {
         check.due("determinant 16777215", -5, linkTo(4095, 0, 0, 0, 4097, 0, 0, 0, 1));
         check.due("determinant -16777216", 0, linkTo(0, 256, 0, 256, 0, 0, 0, 0, 256));
         check.due("determinant -16777215", -5, linkTo(0, 4095, 0, 4097, 0, 0, 0, 0, 1));
+        check.due("determinant by m(0,2) alone", 0, linkTo(0, 0, 256, 256, 0, 0, 0, 256, 0));
         check.due("equal rows", -5, linkTo(1, 2, 3, 1, 2, 3, 9000, 8000, -7000));
         check.due("the greatest numbers", 0, linkTo(-32768, 32767, -32768, -32768, -32768, 32767, 32767, -32768, -32768));
-        Draft back = new Draft(2, 3, 0).colours(1, 1 - 1).entry(5, Draft.matrix(new int[9])).entry(9, Draft.still());
+        Draft back = new Draft(2, 3, 0).colours(1, 0).entry(5, Draft.matrix(new int[9])).entry(9, Draft.still());
         ColourLinker x = with(Draft.gray(0), back);
         check.due("a way back by a grid asks for no matrix", 0, x.link(0, 1, 0, false));
     }
@@ -216,10 +219,11 @@ public final class LinkTest {
         Draft zero = Draft.gray(0).white(31595, 32768, 0);
         Draft zeroToo = Draft.gray(1).white(31595, 32768, 0);
         Draft light = new Draft(2, 1, 0).entry(1, Draft.samples(65534, 65535));
-        Draft lighter = new Draft(2, 1, 0).entry(1, Draft.samples(0, 1)).entry(6, Draft.still());
+        Draft zeroFirst = Draft.gray(0).white(0, 32768, 27030);
         Draft white = new Draft(1, 1, 0).entry(1, Draft.samples(65535, 65535));
-        ColourLinker x = with(Draft.gray(0), zero, zeroToo, light, lighter, white);
+        ColourLinker x = with(Draft.gray(0), zero, zeroToo, light, zeroFirst, white);
         check.due("a white with 0", -7, x.link(0, 1, 3, false));
+        check.due("a white with 0 first", -7, x.link(0, 4, 3, false));
         check.due("the same white with 0", 0, x.link(1, 2, 3, false));
         check.due("from a white with 0", 1, x.link(1, 0, 3, false));
         check.due("a white with 0, another intent", 2, x.link(0, 1, 0, true));
@@ -231,6 +235,14 @@ public final class LinkTest {
         ColourLinker y = with(new Draft(2, 3, 0).entry(6, Draft.flat(2, 0, 200, 0)).shared(9, 6), Draft.gray(0));
         check.due("to a black level over 32768", -7, y.link(1, 0, 0, true));
         check.due("from and to the same one over 32768", -7, y.link(0, 0, 0, true));
+        ColourLinker z = with(Draft.gray(0).white(1, 0, 1), Draft.gray(0), Draft.shaped()
+            .entry(6, Draft.flat(2, 255, 255, 255)).entry(12, Draft.words(5, 0, 1, 2, 3)));
+        check.due("a white with 0 in the middle", -7, z.link(1, 0, 3, true));
+        check.due("to a black level of 65535", -7, z.link(1, 2, 2, true));
+        ColourLinker even = with(Draft.gray(0), new Draft(2, 3, 0)
+            .entry(6, Draft.flat(2, 1, 127, 1)).entry(7, Draft.flat(2, 1, 128, 1)).shared(9, 6));
+        check.due("to a black level of 127 * 257 = 32639", 0, even.link(0, 1, 0, true));
+        check.due("to a black level of 128 * 257 = 32896", -7, even.link(0, 1, 1, true));
         check.due("extend is refused for it too", -7, y.extend(y.link(0, 1, 0, false), 0, 1, true));
     }
 

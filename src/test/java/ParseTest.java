@@ -61,6 +61,10 @@ public final class ParseTest {
         check.due("the first of two wrong bytes", -2003, parsed(gray(), 3, 2, 5, 1));
         check.due("CLASS 1", 0, parsed(gray(), 2, 1));
         check.due("SPACE LAB", 0, parsed(gray(), 4, 1));
+        check.due("T of 13 in 64 bytes", -2006, parsed(java.util.Arrays.copyOf(gray(), 64), 1, 64, 6, 13));
+        Draft twelve = new Draft(2, 3, 0).entry(6, Draft.still()).entry(1, 1, 0).entry(5, Draft.unit());
+        twelve.shared(2, 1).shared(3, 1).shared(4, 1).shared(7, 6).shared(8, 6).shared(9, 6).shared(10, 6).shared(11, 6);
+        check.due("T of 12", 0, parsed(twelve.white(1, 2, 3).bytes()));
         check.due("T of two that just fit", -4009, parsed(gray(), 6, 2));
     }
 
