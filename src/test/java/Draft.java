@@ -116,11 +116,25 @@ final class Draft {
         return all;
     }
 
+    /** Four bytes a call, as an object is good for 512 calls. */
     static void load(ColourLinker x, int[] bytes) {
         x.clear();
-        for (int b : bytes) {
-            x.add(b, 1);
+        int i = 0;
+        for (; i + 4 <= bytes.length; i += 4) {
+            x.add(bytes[i] << 24 | bytes[i + 1] << 16 | bytes[i + 2] << 8 | bytes[i + 3], 4);
         }
+        for (; i < bytes.length; i++) {
+            x.add(bytes[i], 1);
+        }
+    }
+
+    /** A new object with the profiles of the drafts, numbered from 0 on. */
+    static ColourLinker with(Check check, Draft... drafts) {
+        ColourLinker x = new ColourLinker();
+        for (int i = 0; i < drafts.length; i++) {
+            check.due("parse of draft " + i, i, drafts[i].parseInto(x));
+        }
+        return x;
     }
 
     int parseInto(ColourLinker x) {
@@ -137,8 +151,29 @@ final class Draft {
         return bytes;
     }
 
+    /** One channel, a straight curve. */
     static Draft gray(int space) {
         return new Draft(2, 1, space).entry(1, 1, 0);
+    }
+
+    /** One channel, a curve of samples. */
+    static Draft gray(int space, int... e) {
+        return new Draft(2, 1, space).entry(1, samples(e));
+    }
+
+    /** Three channels, both ways a grid of two nodes a side that changes nothing. */
+    static Draft still(int space) {
+        return new Draft(2, 3, space).entry(6, still()).shared(9, 6);
+    }
+
+    /** Three channels in XYZ, straight curves and the matrix. */
+    static Draft shapedBy(int... m) {
+        return new Draft(2, 3, 0).colours(1, 0).entry(5, matrix(m));
+    }
+
+    /** Three channels in XYZ whose ways have no piece. */
+    static Draft plain() {
+        return shapedBy(4096, 0, 0, 0, 4096, 0, 0, 0, 4096);
     }
 
     /** A display in XYZ that is undone exactly by its way back, up to rounding. */
