@@ -15,6 +15,7 @@ public final class FaceTest {
         members();
         innerClasses();
         anyArguments();
+        lastCalls();
         longUse();
         check.end();
     }
@@ -133,6 +134,29 @@ public final class FaceTest {
         x.add(a, b);
         x.parse();
         check.due("a call with odd arguments goes through", true, x.size() >= 0);
+    }
+
+    /** An object is used for at most 512 calls: the last of them are answered like the first. */
+    private static void lastCalls() {
+        ColourLinker x = new ColourLinker();
+        int[] words = {0x00100201, 0x00000100, 0x010C0200, 0x01000000};
+        int calls = 0;
+        for (; calls < 500; calls++) {
+            check.due("add in call " + (calls + 1), calls < 64, x.add(calls, 4));
+        }
+        x.clear();
+        calls++;
+        for (int w : words) {
+            check.due("add in call " + ++calls, true, x.add(w, 4));
+        }
+        check.due("parse in call " + ++calls, 0, x.parse());
+        check.due("same in call " + ++calls, true, x.same(0, 0));
+        check.due("link in call " + ++calls, 0, x.link(0, 0, 0, false));
+        check.due("extend in call " + ++calls, 1, x.extend(0, 0, 0, false));
+        check.due("convert in call " + ++calls, Check.colour(54321, 0, 0), x.convert(1, 54321, 0, 0));
+        check.due("work in call " + ++calls, 4, x.work());
+        check.due("write in call " + ++calls, 16, x.write(0));
+        check.due("the last call", 512, calls);
     }
 
     /** What later calls answer is free, but they answer. */

@@ -137,6 +137,12 @@ public final class PassageEdgeTest {
         dueKinds("the other way round", x, x.link(1, 0, 1, true), 3, 8, 3);
         // from 1285 to 1028: 32768 - N((32768 - 1285) * 31740 / 31483) = 32768 - 31740
         check.due("v1 of the black colour", 1028, x.after(1, 2, 0, 0, 0) / 65536 % 65536);
+        // (0, 0, 0) goes through the way forth of each intent, and not what came of it for another one
+        ColourLinker z = Draft.with(check, darkest(257), new Draft(2, 3, 0).entry(6, Draft.flat(2, 9, 1, 9)).entry(9, Draft.still()));
+        for (int intent = 0; intent < 3; intent++) {
+            dueKinds("257 by a curve and by a grid, intent " + intent, z, z.link(0, 1, intent, true), 1, 3);
+            dueKinds("257 by a grid and by a curve, intent " + intent, z, z.link(1, 0, intent, true), 3, 11);
+        }
         // node (0, 0, 0) alone counts
         int[] g = Draft.flat(2, 200, 200, 200);
         g[3] = 4;
@@ -363,6 +369,10 @@ public final class PassageEdgeTest {
         check.due("from 32767 to 32767", 2, x.link(1, 1, 0, true));
         check.due("from 32768", -7, x.link(2, 0, 0, true));
         check.due("to 32768", -7, x.link(0, 2, 0, true));
+        for (int intent = 1; intent < 3; intent++) {
+            check.due("from 32768, intent " + intent, -7, x.link(2, 0, intent, true));
+            check.due("to 32768, intent " + intent, -7, x.link(0, 2, intent, true));
+        }
         check.due("from 65534", -7, x.link(3, 0, 1, true));
         check.due("to 65534", -7, x.link(0, 3, 2, true));
         check.due("from 32768 to 32768", -7, x.link(2, 4, 0, true));
@@ -371,6 +381,10 @@ public final class PassageEdgeTest {
         check.due("asked for with intent 3", 4, x.link(2, 3, 3, true));
         check.due("extend from 65534 to 0", -7, x.extend(3, 0, 0, true));
         check.due("extend from 65534 to 0, not asked for", 5, x.extend(3, 0, 0, false));
+        for (int intent = 1; intent < 3; intent++) {
+            check.due("from 32767, intent " + intent, 4 + 2 * intent, x.link(1, 0, intent, true));
+            check.due("to 32767, intent " + intent, 5 + 2 * intent, x.link(0, 1, intent, true));
+        }
     }
 
     private static void orderOfRefusals() {

@@ -20,8 +20,10 @@ public final class PieceEdgeTest {
         toLabBend();
         toLabRoots();
         toLabClipped();
+        toLabNearHalves();
         toXyzBend();
         toXyzClipped();
+        toXyzNearHalves();
         scale();
         black();
         blackNextToWhite();
@@ -336,6 +338,18 @@ public final class PieceEdgeTest {
         check.dueColour("all", x.after(0, 1, 65535, 65535, 65535), 65535, 34872, 28604);
     }
 
+    /** Worked out by another program, with exact fractions; a constant that is off by 1 makes a difference in one of them. */
+    private static void toLabNearHalves() {
+        check.says("5 TO LAB: .. CLIP(N((116 * y - 262144) * 65535 / 1638400)), CLIP(32896 + N(128500 * (x - y) / 16384)), CLIP(32896 + N(51400 * (y - z) / 16384))");
+        ColourLinker x = labLinks();
+        int[][] due = {{8, 144, 32653, 32993}, {30, 544, 31978, 33263}, {40, 724, 31672, 33385}, {43, 776, 31586, 33420},
+            {75, 1355, 30606, 33812}, {219, 3958, 26206, 35572}, {343, 6144, 22512, 37050}, {512, 8520, 18496, 38656},
+            {556, 9049, 17602, 39014}, {566, 9165, 17406, 39092}};
+        for (int[] d : due) {
+            check.dueColour("to LAB of y = " + d[0], x.after(0, 1, 0, d[0], 0), d[1], d[2], d[3]);
+        }
+    }
+
     private static void toXyzBend() {
         check.says("6 TO XYZ: .. G(f) be N(f * f * f / 134217728) when f > 3389, otherwise N((f - 2260) * 216 / 841).");
         ColourLinker x = labLinks();
@@ -359,6 +373,21 @@ public final class PieceEdgeTest {
         check.dueColour("the greatest x", x.after(1, 2, 65535, 65535, 32896), 62308, 32768, 27030);
         check.dueColour("the least x", x.after(1, 2, 65535, 0, 32896), 13013, 32768, 27030);
         check.dueColour("the least z", x.after(1, 2, 65535, 32896, 65535), 31595, 32768, 1314);
+    }
+
+    /** As with TO LAB. */
+    private static void toXyzNearHalves() {
+        check.says("6 TO XYZ: let y = N((100 * v0 + 1048560) * 16384 / 7602060), x = y + N((v1 - 32896) * 16384 / 128500), z = y - N((v2 - 32896) * 16384 / 51400)");
+        ColourLinker x = labLinks();
+        int[][] due = {{170, 32896, 32896, 10, 10, 8}, {333, 32896, 32896, 17, 18, 15}, {2541, 32896, 32896, 135, 140, 115},
+            {2773, 32896, 32896, 148, 154, 127}, {4796, 32896, 32896, 256, 265, 219}, {7979, 32896, 32896, 453, 470, 388},
+            {10350, 32896, 32896, 650, 674, 556}, {10582, 32896, 32896, 673, 698, 576}, {63547, 32896, 32896, 29183, 30266, 24966},
+            {65535, 65535, 32896, 62308, 32768, 27030}, {65535, 65486, 32896, 62244, 32768, 27030}, {65535, 65472, 32896, 62234, 32768, 27030},
+            {65535, 65409, 32896, 62153, 32768, 27030}, {40000, 32896, 0, 9254, 9598, 59954}, {40000, 32896, 1, 9254, 9598, 59946},
+            {40000, 32896, 4, 9254, 9598, 59937}, {40000, 32896, 7, 9254, 9598, 59937}, {40000, 32896, 3079, 9254, 9598, 52061}};
+        for (int[] d : due) {
+            check.dueColour("to XYZ of " + d[0] + ", " + d[1] + ", " + d[2], x.after(1, 2, d[0], d[1], d[2]), d[3], d[4], d[5]);
+        }
     }
 
     private static void scale() {

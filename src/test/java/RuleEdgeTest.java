@@ -13,6 +13,7 @@ public final class RuleEdgeTest {
         rule3();
         rule3Again();
         rule4Offset();
+        rule4BehindEntries();
         rule4Length();
         rule5();
         rule6();
@@ -177,6 +178,23 @@ public final class RuleEdgeTest {
         check.due("the last OFFSET with room for two bytes", rule(7, 24), parsed(two, 13, 24));
         check.due("OFFSET at SIZE", -4013, parsed(two, 13, 28));
         check.due("OFFSET behind SIZE", -4013, parsed(two, 13, 252));
+    }
+
+    private static void rule4BehindEntries() {
+        check.says("4, place t + 1: o is .. at least 8 + 4T");
+        for (int t = 1; t <= 12; t++) {
+            int[] b = graySized(256);
+            b[6] = t;
+            // all entries alike, so that rule 3 stops the second one when the first one is right
+            for (int k = 0; k < t; k++) {
+                System.arraycopy(new int[] {1, 8 + 4 * t, 2, 0}, 0, b, 8 + 4 * k, 4);
+            }
+            b[8 + 4 * t] = 1;
+            b[9 + 4 * t] = 0;
+            check.due("OFFSET just behind " + t + " entries", t == 1 ? 0 : -3012, parsed(b));
+            check.due("OFFSET of the last of " + t + " entries", -4009, parsed(b, 9, 4 + 4 * t));
+            check.due("OFFSET of the first of " + t + " entries", -4009, parsed(b, 9, 8));
+        }
     }
 
     private static void rule4Length() {
