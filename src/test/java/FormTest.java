@@ -69,7 +69,8 @@ public final class FormTest {
     }
 
     private static void dueBuffer(String what, ColourLinker x, int... want) {
-        check.due(what + ", its bytes " + Arrays.toString(Draft.bufferOf(x)), true, Arrays.equals(want, Draft.bufferOf(x)));
+        int[] got = Draft.bufferOf(x);
+        check.due(what + ", its bytes " + Arrays.toString(got), true, Arrays.equals(want, got));
     }
 
     private static void write() {

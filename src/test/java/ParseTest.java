@@ -20,14 +20,13 @@ public final class ParseTest {
     /** Parses the bytes in an object of their own; each change is a place and a byte. */
     private static int parsed(int[] bytes, int... changes) {
         ColourLinker x = new ColourLinker();
-        Draft.load(x, bytes);
+        int[] changed = bytes.clone();
         for (int i = 0; i < changes.length; i += 2) {
-            x.set(changes[i], changes[i + 1]);
+            changed[changes[i]] = changes[i + 1];
         }
-        int[] before = Draft.bufferOf(x);
+        Draft.load(x, changed);
         int answer = x.parse();
-        int[] after = Draft.bufferOf(x);
-        check.due("the buffer after parse", true, java.util.Arrays.equals(before, after));
+        check.due("the buffer after parse", true, java.util.Arrays.equals(changed, Draft.bufferOf(x)));
         check.due("profiles after parse", answer == 0 ? 1 : 0, x.profiles());
         return answer;
     }
